@@ -402,6 +402,9 @@ public final class InstructionTest {
         last.step();
         CHECK.due("last word", last.register(3), 4);
         CHECK.due("SP behind the end", last.register(13), 256);
+        ThumbCore to = stacked(0xBD07, 1, 2, 3, 101);
+        to.step();
+        CHECK.due("last word is where", to.register(15), 100);
     }
 
     private static void masks() {
@@ -447,7 +450,13 @@ public final class InstructionTest {
         CHECK.due("R1 itself", Bench.word(y, 100), 100);
         CHECK.due("R2", Bench.word(y, 104), 3);
         CHECK.due("R1 behind", y.register(1), 108);
+        ThumbCore below = Bench.registers(filled(0xC101, 0xC141), 1, 100);
+        below.run(2);
+        CHECK.due("only others", below.register(1), 112);
+        CHECK.due("no fault", x.about(0) + y.about(0) + below.about(0), 0);
+        CHECK.due("PC", x.register(15), 66);
         faults("itself not lowest", 0xC103, 1, 100);
+        faults("itself between others", 0xC107, 1, 100);
         faults("nothing", 0xC100, 1, 100);
         for (int a : new int[] {101, 102, 103, 252, 256, -4}) faults("not there", 0xC10D, 1, a, 3, 4);
         ThumbCore z = Bench.registers(filled(0xC105), 1, 252, 3);
@@ -467,7 +476,10 @@ public final class InstructionTest {
             ThumbCore y = Bench.registers(filled(h), 1, 100, 3);
             y.step();
             CHECK.due("R1 as read", y.register(1), h == 0xC903 ? 0x11223344 : 0x8182F384);
+            CHECK.due("no fault", y.about(0), 0);
         }
+        CHECK.due("no fault", x.about(0), 0);
+        CHECK.due("PC", x.register(15), 66);
         faults("nothing", 0xC900, 1, 100);
         for (int a : new int[] {101, 102, 103, 252, 256, -4}) faults("not there", 0xC90D, 1, a, 3, 4);
     }
