@@ -27,6 +27,14 @@ final class Check {
         }
     }
 
+    int asked() {
+        return asked;
+    }
+
+    int wrong() {
+        return wrong;
+    }
+
     /** Ends the program: with exit code 1 if an answer was wrong. */
     void end() {
         System.out.println(asked + " answers, " + wrong + " of them wrong");
