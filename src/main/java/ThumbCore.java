@@ -366,7 +366,7 @@ public final class ThumbCore {
                 if ((h & 7) != 0 || m == PC) {
                     return false;
                 }
-                return (h >>> 7 & 1) == 1 ? callTo(registers[m]) : branchTo(registers[m]);
+                return branchTo(registers[m], (h >>> 7 & 1) == 1);
         }
     }
 
@@ -382,18 +382,13 @@ public final class ThumbCore {
         }
     }
 
-    private boolean callTo(int v) {
-        if ((v & 1) == 0) {
-            return false;
-        }
-        registers[LR] = next + 1;
-        next = v - 1;
-        return true;
-    }
-
-    private boolean branchTo(int v) {
+    private boolean branchTo(int v, boolean linking) {
         if (!mayGoTo(v, registers[SP])) {
             return false;
+        }
+        // A return brings LR back as it was laid down.
+        if (linking && !isReturn(v)) {
+            registers[LR] = next + 1;
         }
         goTo(v);
         return true;

@@ -20,7 +20,8 @@ public final class ExceptionTest {
         returningToAnother();
         returningToOneNotLast();
         wrongReturns();
-        goingWithLinkIsNoReturn();
+        goingWithLinkMayReturn();
+        takingToPcIsNoReturn();
         order();
         mask();
         faultLocks();
@@ -321,18 +322,28 @@ public final class ExceptionTest {
         }
     }
 
-    private static void goingWithLinkIsNoReturn() {
+    private static void goingWithLinkMayReturn() {
         ThumbCore x = in(14);
         Bench.code(x, Bench.handler(14), 0x47F0);
+        CHECK.due("step", x.step(), 0);
+        CHECK.due("PC", x.register(15), 64);
+        CHECK.due("LR as laid down", x.register(14), 24);
+        CHECK.due("active no more", x.about(0), 0);
+        ThumbCore y = in(14);
+        Bench.registers(y, 0, 121);
+        Bench.code(y, Bench.handler(14), 0x4788);
+        y.step();
+        CHECK.due("to a place, PC", y.register(15), 120);
+        CHECK.due("to a place, LR", y.register(14), Bench.handler(14) + 3);
+        CHECK.due("to a place, active still", y.about(0), 14);
+    }
+
+    private static void takingToPcIsNoReturn() {
+        ThumbCore x = in(14);
+        Bench.code(x, Bench.handler(14), 0x46F7);
         x.step();
         CHECK.due("PC", x.register(15), -8);
-        CHECK.due("LR", x.register(14), Bench.handler(14) + 3);
         CHECK.due("active still", x.about(0), 14);
-        ThumbCore y = in(14);
-        Bench.code(y, Bench.handler(14), 0x46F7);
-        y.step();
-        CHECK.due("PC = LR is none either", y.register(15), -8);
-        CHECK.due("active still", y.about(0), 14);
     }
 
     private static void order() {

@@ -416,12 +416,44 @@ public final class InstructionBoundaryTest {
     }
 
     @Sentence("where going to is not a return")
-    static void goingWithLinkIsNoReturn() {
-        Setup one = Setup.of().in(14).here(Code.goWithLink(14));
-        int behind = Setup.handler(14) + 3;
-        Boundaries.made(one, "PC=-8 LR=" + behind);
-        Setup two = Setup.of().in(14, 2).here(Code.goWithLink(14));
-        Boundaries.made(two, "PC=-16 LR=" + (Setup.handler(2) + 3));
+    static void goingWithLinkThatIsAReturnTakesLrAsLaidDown() {
+        String none = "PC=64 SP=280 LR=-1 e14=0 current=0 active=0 present=4";
+        Boundaries.made(Setup.of().in(14).here(Code.goWithLink(14)), none);
+        Boundaries.made(Setup.of().in(14).here(Code.goWithLink(7)).r(7, -7), none);
+        Boundaries.made(Setup.of().in(14).here(Code.goWithLink(14)).word(268, 77), none + " LR=77");
+        String in14 = "PC=108 SP=248 LR=-7 e2=0 current=14 active=1 present=0";
+        Boundaries.made(Setup.of().in(14, 2).here(Code.goWithLink(14)), in14);
+        Boundaries.made(Setup.of().in(14, 2).here(Code.goWithLink(0)).r(0, -15), in14 + " R0=0");
+    }
+
+    @Sentence("where going to is not a return")
+    static void goingWithLinkThatIsNoReturnSetsLr() {
+        int in14 = Setup.handler(14) + 3;
+        int in2 = Setup.handler(2) + 3;
+        for (int v : new int[] {201, -1, -3, -5, -9, -11, -13, -17, 7, 15}) {
+            Boundaries.made(Setup.of().in(14).here(Code.goWithLink(14)).r(14, v), "PC=" + (v - 1) + " LR=" + in14);
+            Boundaries.made(Setup.of().in(14, 2).here(Code.goWithLink(1)).r(1, v), "PC=" + (v - 1) + " LR=" + in2);
+        }
+        for (int v : new int[] {-7, -15}) {
+            Boundaries.made(Setup.of(Code.goWithLink(1)).r(1, v), "PC=" + (v - 1) + " LR=67");
+            Boundaries.made(Setup.of(Code.goWithLink(14)).r(14, v), "PC=" + (v - 1) + " LR=67");
+        }
+    }
+
+    @Sentence("where going to is not a return")
+    static void goingWithLinkThatIsAWrongReturnIsAFault() {
+        Boundaries.fault(linkingBackFrom(14).r(14, -15));
+        Boundaries.fault(linkingBackFrom(14).word(276, 14));
+        Boundaries.fault(linkingBackFrom(14).r(13, 260));
+        Setup inner = Setup.of().priority(15, 1).in(15, 14).here(Code.goWithLink(14));
+        Boundaries.fault(inner.r(14, -7));
+        Boundaries.fault(inner.r(14, -15).word(244, 14));
+        Boundaries.locks(linkingBackFrom(2).r(14, -15));
+        Boundaries.locks(linkingBackFrom(3).word(276, 3));
+    }
+
+    private static Setup linkingBackFrom(int e) {
+        return Setup.of().in(e).here(Code.goWithLink(14));
     }
 
     // 9 .. 21: words, halves and bytes.

@@ -232,14 +232,15 @@ final class Model {
         reg[13] = sp + 32 + (bits.charAt(31 - 9) == '1' ? 4 : 0);
     }
 
-    private void goTo(int to, boolean mayReturn) {
-        if (mayReturn && !active.isEmpty() && (to == -7 || to == -15)) {
+    /** Whether it was a return. */
+    private boolean goTo(int to) {
+        if (!active.isEmpty() && (to == -7 || to == -15)) {
             comeBack(to);
-        } else if (to % 2 == 0) {
-            throw new Fault();
-        } else {
-            reg[15] = to - 1;
+            return true;
         }
+        if (to % 2 == 0) throw new Fault();
+        reg[15] = to - 1;
+        return false;
     }
 
     private void make() {
@@ -372,9 +373,8 @@ final class Model {
             add(x, -1 - y, 1);
         } else {
             if (h % 8 != 0 || mm == 15) throw new Fault();
-            boolean links = h / 128 % 2 == 1;
-            if (links) reg[14] = at + 3;
-            goTo(y, !links);
+            boolean wasReturn = goTo(y);
+            if (h / 128 % 2 == 1 && !wasReturn) reg[14] = at + 3;
         }
     }
 
@@ -434,7 +434,7 @@ final class Model {
         if (goes) {
             int to = read(reg[13], 4);
             reg[13] += 4;
-            goTo(to, true);
+            goTo(to);
         }
     }
 
